@@ -116,6 +116,15 @@ final class Check {
         return told.append("\ntext ").append(x.clearText()).toString();
     }
 
+    /** The value of a task that has worked so often. */
+    static int valueAfter(int width, int value, int times) {
+        int later = value;
+        for (int i = 0; i < times; i++) {
+            later = (31 * later + 7 * width + 1) % 997;
+        }
+        return later;
+    }
+
     static StripeTasks withText(String text) {
         StripeTasks x = new StripeTasks();
         append(x, text);
