@@ -380,7 +380,7 @@ public final class StripeTasks {
     }
 
     /** Does a command of the text; false if the method would throw an exception. */
-    private static boolean obeyTextCommand(State on, char letter, int first, int second) {
+    private static boolean obeyTextCommand(State on, int letter, int first, int second) {
         switch (letter) {
             case 't':
                 return on.addTask(first, second) != NONE;
@@ -816,7 +816,7 @@ public final class StripeTasks {
 
         boolean canBring(int t, int first) {
             Task task = taskNumbered(t);
-            if (task == null || !isIdle()) {
+            if (task == null || !isStripe(first) || !isIdle()) {
                 return false;
             }
             for (int s = first; s < first + task.width; s++) {
@@ -962,7 +962,7 @@ public final class StripeTasks {
         int at = 0;
         boolean wrong = false;
         /** The command that was read last. */
-        char letter = ' ';
+        int letter = NONE;
         int first = NONE;
         int second = NONE;
 

@@ -86,6 +86,8 @@ final class ScriptTest {
         fails(ScriptTest::idle, 62000);
         fails(ScriptTest::idle, 60012);
         fails(ScriptTest::idle, 60102);
+        fails(ScriptTest::idle, 61010);
+        fails(ScriptTest::idle, 61100);
         int value = Check.valueAfter(3, 100, 1);
         succeeds(ScriptTest::idle, 70000 + value);
         fails(ScriptTest::idle, 70000 + value + 1);
