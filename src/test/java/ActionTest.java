@@ -51,42 +51,37 @@ final class ActionTest {
         Check.noArgument("P11 a seventh of value 997", full, y -> y.add(1, 997));
     }
 
-    private static void status(StripeTasks x, String what, int t, int status, int first) {
-        Check.same(what + ": status", x.task(t, 4), status);
-        Check.same(what + ": first stripe", x.task(t, 5), first);
-    }
-
     private static void bringLoads() {
         StripeTasks x = Check.loaded("At3100t2200");
         Check.same("P12 a loading", x.bring(0, 9), 9);
-        status(x, "P12 loaded", 0, 1, 9);
+        Check.status(x, "P12 loaded", 0, 1, 9);
         Check.same("P12 no works while loading", x.run(8), 0);
-        status(x, "P12 still loaded", 0, 1, 9);
+        Check.status(x, "P12 still loaded", 0, 1, 9);
         Check.same("P12 the last tick works", x.run(1), 1);
-        status(x, "P12 running", 0, 2, 9);
+        Check.status(x, "P12 running", 0, 2, 9);
         x.set(0, 1);
         Check.same("P12 a loading of 1 tick a stripe", x.bring(1, 0), 2);
         x.run(2);
-        status(x, "P12 the second one", 1, 2, 0);
+        Check.status(x, "P12 the second one", 1, 2, 0);
     }
 
     private static void bringMoves() {
         StripeTasks x = Check.loaded("At2200l003w06");
         Check.same("P12 a move", x.bring(0, 5), 8);
-        status(x, "P12 moving, still running", 0, 2, 3);
+        Check.status(x, "P12 moving, still running", 0, 2, 3);
         Check.same("P12 works while the new ones are loaded", x.run(5), 5);
-        status(x, "P12 still moving", 0, 2, 3);
+        Check.status(x, "P12 still moving", 0, 2, 3);
         Check.same("P12 rests at the handing over", x.run(1), 0);
-        status(x, "P12 handed over takes the old ones", 0, 3, 3);
+        Check.status(x, "P12 handed over takes the old ones", 0, 3, 3);
         Check.same("P12 still rests", x.run(1), 0);
-        status(x, "P12 still handed over", 0, 3, 3);
+        Check.status(x, "P12 still handed over", 0, 3, 3);
         Check.same("P12 goes on at the new ones", x.run(1), 1);
-        status(x, "P12 moved", 0, 2, 5);
+        Check.status(x, "P12 moved", 0, 2, 5);
         Check.same("P12 left", x.stripe(4, 0), -1);
         x.set(1, 0);
         Check.same("P12 a move without a handing over", x.bring(0, 1), 6);
         Check.same("P12 rests no tick", x.run(6), 6);
-        status(x, "P12 moved at once", 0, 2, 1);
+        Check.status(x, "P12 moved at once", 0, 2, 1);
         Check.same("P12 works kept", x.task(0, 3), 13);
         Check.same("P12 value kept", x.task(0, 1), Check.valueAfter(2, 200, 13));
     }
@@ -94,22 +89,22 @@ final class ActionTest {
     private static void bringOntoOwn() {
         StripeTasks x = Check.loaded("At2200l003w06");
         Check.same("P12 a move onto an own stripe", x.bring(0, 4), 8);
-        status(x, "P12 handed over at once", 0, 3, 3);
+        Check.status(x, "P12 handed over at once", 0, 3, 3);
         Check.same("P12 rests all the time", x.run(7), 0);
-        status(x, "P12 takes the old ones", 0, 3, 3);
+        Check.status(x, "P12 takes the old ones", 0, 3, 3);
         Check.same("P12 works at the end", x.run(1), 1);
-        status(x, "P12 takes the new ones", 0, 2, 4);
+        Check.status(x, "P12 takes the new ones", 0, 2, 4);
         Check.same("P12 left", x.stripe(3, 0), -1);
         Check.same("P12 to where it is", x.bring(0, 4), 8);
-        status(x, "P12 that is a move", 0, 3, 4);
+        Check.status(x, "P12 that is a move", 0, 3, 4);
         Check.same("P12 to each of its stripes", x.stripe(5, 1), 0);
         Check.same("P12 works behind it", x.run(8), 1);
         x.set(1, 0);
         Check.same("P12 back by one, without handing over", x.bring(0, 3), 6);
-        status(x, "P12 handed over nevertheless", 0, 3, 4);
+        Check.status(x, "P12 handed over nevertheless", 0, 3, 4);
         Check.same("P12 rests until then", x.run(6), 1);
         Check.same("P12 side by side is not its own", x.bring(0, 1), 6);
-        status(x, "P12 so it goes on", 0, 2, 3);
+        Check.status(x, "P12 so it goes on", 0, 2, 3);
     }
 
     private static void bringRefused() {
@@ -147,7 +142,7 @@ final class ActionTest {
         StripeTasks x = Check.loaded("At3100t2200l003w13l108");
         int value = Check.valueAfter(3, 100, 5);
         Check.same("P13 stop", x.stop(0), value);
-        status(x, "P13 stopped", 0, 0, -1);
+        Check.status(x, "P13 stopped", 0, 0, -1);
         Check.same("P13 its value stays", x.task(0, 1), value);
         Check.same("P13 its value is saved", x.task(0, 2), value);
         Check.same("P13 its works stay", x.task(0, 3), 5);
@@ -178,7 +173,7 @@ final class ActionTest {
         Check.same("P14 again", x.turnBad(2), -1);
         Check.same("P14 is still bad", x.stripe(2, 2), 1);
         Check.same("P14 the task that takes it", x.turnBad(5), 0);
-        status(x, "P14 it is off", 0, 0, -1);
+        Check.status(x, "P14 it is off", 0, 0, -1);
         Check.same("P14 has its saved value", x.task(0, 1), Check.valueAfter(3, 100, 2));
         Check.same("P14 keeps the saved value", x.task(0, 2), Check.valueAfter(3, 100, 2));
         Check.same("P14 its works stay", x.task(0, 3), 5);
@@ -200,13 +195,13 @@ final class ActionTest {
         Check.same("P14 another task's stripe", x.turnBad(3), 0);
         Check.same("P14 the other's job stays", x.job(0), 1);
         Check.same("P14 a loaded task", x.turnBad(7), 1);
-        status(x, "P14 loaded is off", 1, 0, -1);
+        Check.status(x, "P14 loaded is off", 1, 0, -1);
         Check.same("P14 its job is gone", x.idleIn(), 0);
         Check.same("P14 and lost", x.about(7), 1);
 
         StripeTasks moving = Check.loaded("At2100l003w12l008");
         Check.same("P14 the new stripe of a running task", moving.turnBad(9), -1);
-        status(moving, "P14 it goes on", 0, 2, 3);
+        Check.status(moving, "P14 it goes on", 0, 2, 3);
         Check.same("P14 just its job is gone", moving.job(0), -1);
         Check.same("P14 and is lost", moving.about(7), 1);
         Check.same("P14 not brought to it any more", moving.stripe(8, 1), -1);
@@ -214,7 +209,7 @@ final class ActionTest {
 
         StripeTasks old = Check.loaded("At2100l003w12l008");
         Check.same("P14 the old stripe of a running task", old.turnBad(4), 0);
-        status(old, "P14 it is off", 0, 0, -1);
+        Check.status(old, "P14 it is off", 0, 0, -1);
         Check.same("P14 its move is gone", old.job(2), -1);
         Check.same("P14 and lost", old.about(7), 1);
         Check.same("P14 the rest is free", old.about(3), 11);
@@ -229,7 +224,7 @@ final class ActionTest {
     private static void handedOver(String what, String text, int s) {
         StripeTasks x = Check.loaded(text);
         Check.same(what, x.turnBad(s), 0);
-        status(x, what, 0, 0, -1);
+        Check.status(x, what, 0, 0, -1);
         Check.same(what + ": saved value", x.task(0, 1), Check.valueAfter(2, 100, 5));
         Check.same(what + ": job gone", x.job(0), -1);
         Check.same(what + ": job lost", x.about(7), 1);
@@ -248,7 +243,7 @@ final class ActionTest {
         Check.same("P15 none is bad", x.about(5), 0);
         x.turnBad(4);
         x.mend(4);
-        status(x, "P15 a mended stripe brings no task back", 0, 0, -1);
+        Check.status(x, "P15 a mended stripe brings no task back", 0, 0, -1);
         for (int n : FAR) {
             Check.noIndex("P15 mend(" + n + ")", () -> Check.loaded("Ab00b11"), y -> y.mend(n));
         }
@@ -352,7 +347,7 @@ final class ActionTest {
         x.run(1);
         x.set(1, 0);
         Check.same("P17 done at once", x.run(1), 1);
-        status(x, "P17 moved", 0, 2, 1);
+        Check.status(x, "P17 moved", 0, 2, 1);
     }
 
     private static void undo() {

@@ -6,6 +6,10 @@ final class Check {
         int on(StripeTasks x);
     }
 
+    interface CallWith {
+        int on(StripeTasks x, int n);
+    }
+
     private static int wrong = 0;
 
     private Check() {
@@ -17,10 +21,22 @@ final class Check {
         }
     }
 
+    /** Of long texts, the first line that differs is told. */
     static void sameText(String what, String got, String due) {
-        if (!got.equals(due)) {
-            fail(what + " answered\n" + got + "\ndue is\n" + due);
+        if (got.equals(due)) {
+            return;
         }
+        String[] gotLines = got.split("\n");
+        String[] dueLines = due.split("\n");
+        int line = 0;
+        while (line < gotLines.length && line < dueLines.length && gotLines[line].equals(dueLines[line])) {
+            line++;
+        }
+        fail(what + " answered " + lineOf(gotLines, line) + ", due is " + lineOf(dueLines, line));
+    }
+
+    private static String lineOf(String[] lines, int line) {
+        return line < lines.length ? lines[line] : "nothing more";
     }
 
     static void fail(String message) {
@@ -46,9 +62,18 @@ final class Check {
 
     /** The call throws just that, and leaves the object as one on which it was not made. */
     static void refuses(String what, Class<? extends Exception> due, Supplier<StripeTasks> make, Call call) {
-        StripeTasks tried = make.get();
-        sameText(what, answer(tried, call), due.getSimpleName());
-        sameText(what + " changes nothing:", everything(tried), everything(make.get()));
+        sameText(what, answer(make.get(), call), due.getSimpleName());
+        changesNothing(what, make, call);
+    }
+
+    /** Whatever the call answers or throws, behind it the object is as one on which it was not made. */
+    static void changesNothing(String what, Supplier<StripeTasks> make, Call call) {
+        Supplier<StripeTasks> called = () -> {
+            StripeTasks x = make.get();
+            answer(x, call);
+            return x;
+        };
+        sameText(what + " changes nothing:", everything(called), everything(make));
     }
 
     static void noIndex(String what, Supplier<StripeTasks> make, Call call) {
@@ -65,9 +90,21 @@ final class Check {
 
     /** The call answers, and leaves the object as one on which it was not made. */
     static void onlyTells(String what, Supplier<StripeTasks> make, Call call, int due) {
-        StripeTasks asked = make.get();
-        sameText(what, answer(asked, call), Integer.toString(due));
-        sameText(what + " changes nothing:", everything(asked), everything(make.get()));
+        sameText(what, answer(make.get(), call), Integer.toString(due));
+        changesNothing(what, make, call);
+    }
+
+    /**
+     * A number that a call takes: at both ends of its range the call answers what is due, just below, just above and
+     * far outside it throws, and changes nothing by that.
+     */
+    static void range(String what, Class<? extends Exception> outside, Supplier<StripeTasks> make, CallWith call,
+            int least, int dueAtLeast, int most, int dueAtMost) {
+        same(what + " at " + least, call.on(make.get(), least), dueAtLeast);
+        same(what + " at " + most, call.on(make.get(), most), dueAtMost);
+        for (int n : new int[] {least - 1, most + 1, Integer.MIN_VALUE, Integer.MAX_VALUE}) {
+            refuses(what + " at " + n, outside, make, x -> call.on(x, n));
+        }
     }
 
     /** What an object tells about its present state. */
@@ -100,20 +137,35 @@ final class Check {
         return told.toString();
     }
 
-    /** All that an object holds: its state, the remembered ones, the save slots and the text. It is used up by that. */
-    static String everything(StripeTasks x) {
-        StringBuilder told = new StringBuilder(state(x));
-        String left = answer(x, StripeTasks::undo);
-        while (!left.equals("IllegalStateException")) {
-            told.append("\nundone, ").append(left).append(" left\n").append(state(x));
-            left = answer(x, StripeTasks::undo);
+    /**
+     * All that an object holds: its state, the remembered ones, the save slots and the text. Each part is told by an
+     * object of its own, as one object is used for 512 calls at most.
+     */
+    static String everything(Supplier<StripeTasks> make) {
+        StringBuilder told = new StringBuilder(state(make.get()));
+        String left = "";
+        for (int times = 1; times <= 20 && !left.equals("IllegalStateException"); times++) {
+            StripeTasks x = make.get();
+            for (int i = 0; i < times; i++) {
+                left = answer(x, StripeTasks::undo);
+            }
+            told.append("\nundone ").append(times).append(" times: ").append(left).append('\n').append(state(x));
         }
         for (int slot = 0; slot <= 1; slot++) {
             int number = slot;
+            StripeTasks x = make.get();
             told.append("\nslot ").append(answer(x, y -> y.restore(number))).append('\n').append(state(x));
         }
+        StripeTasks x = make.get();
         told.append("\nerror position ").append(x.errorPosition());
+        told.append("\nloaded ").append(answer(x, StripeTasks::load)).append('\n').append(state(x));
         return told.append("\ntext ").append(x.clearText()).toString();
+    }
+
+    /** Whether the task is off (0), loaded (1), running (2) or handed over (3), and where it lies. */
+    static void status(StripeTasks x, String what, int t, int status, int first) {
+        same(what + ": status", x.task(t, 4), status);
+        same(what + ": first stripe", x.task(t, 5), first);
     }
 
     /** The value of a task that has worked so often. */
@@ -123,6 +175,10 @@ final class Check {
             later = (31 * later + 7 * width + 1) % 997;
         }
         return later;
+    }
+
+    static Supplier<StripeTasks> withTask(int width) {
+        return () -> loaded("At" + width + "000");
     }
 
     static StripeTasks withText(String text) {

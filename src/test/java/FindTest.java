@@ -7,12 +7,17 @@ final class FindTest {
     public static void main(String[] args) {
         bestGap();
         bestGapWithJobs();
+        bestGapOfTwo();
         window();
         windowWithJobs();
+        windowPlaces();
         idleIn();
+        idleInCountsDown();
         coming();
         comingWithJobs();
+        comingAsItComes();
         lost();
+        lostEachStripe();
         lostWithJobs();
         lostOnce();
         Check.finish("FindTest");
@@ -48,6 +53,34 @@ final class FindTest {
         Check.same("P19 behind brought to", x.bestGap(3), 8);
         Check.same("P19 not over brought to", x.bestGap(5), -1);
         Check.same("P19 loaded ones are taken", Check.loaded("At2000l002").bestGap(3), 4);
+    }
+
+    /** "the shortest gap with at least so many stripes, of several the first one; NONE if there is none" */
+    private static void bestGapOfTwo() {
+        for (int bad = 0; bad < 12; bad++) {
+            StripeTasks x = new StripeTasks();
+            x.turnBad(bad);
+            int before = bad;
+            int behind = 11 - bad;
+            for (int width = 1; width <= 6; width++) {
+                boolean first = before >= width && (before < behind || behind < width);
+                int due = first ? 0 : behind >= width ? bad + 1 : -1;
+                Check.same("P19 " + bad + " is bad, bestGap(" + width + ")", x.bestGap(width), due);
+            }
+        }
+        // gaps of 3, 3 and 4, then of 4, 3 and 3
+        StripeTasks x = Check.loaded("Ab03b07");
+        Check.same("P19 of two the first one", x.bestGap(3), 0);
+        Check.same("P19 the only one of 4", x.bestGap(4), 8);
+        Check.same("P19 none of 5", x.bestGap(5), -1);
+        StripeTasks y = Check.loaded("Ab04b08");
+        Check.same("P19 of two behind another the first one", y.bestGap(3), 5);
+        Check.same("P19 one of just so many", y.bestGap(4), 0);
+        // brought to are 0 and 1, taken 5 and 6: gaps of 3 and 5
+        StripeTasks moving = Check.loaded("At2000l005w06l000");
+        Check.same("P19 between brought to and taken", moving.bestGap(3), 2);
+        Check.same("P19 behind taken", moving.bestGap(4), 7);
+        Check.same("P19 not with them", moving.bestGap(6), -1);
     }
 
     private static void windows(String what, Supplier<StripeTasks> make, int width, int first, int widths) {
@@ -97,6 +130,31 @@ final class FindTest {
         windows("P20 a brought to one is not", own, 6, -1, -1);
     }
 
+    /** The first and the last place of a window; "each one that takes one of its stripes counts with its whole width" */
+    private static void windowPlaces() {
+        for (int width = 1; width <= 12; width++) {
+            StripeTasks left = new StripeTasks();
+            StripeTasks right = new StripeTasks();
+            for (int s = 0; s < 12 - width; s++) {
+                left.turnBad(11 - s);
+                right.turnBad(s);
+            }
+            Check.same("P20 the first place of " + width, left.window(width, 0), 0);
+            Check.same("P20 the last place of " + width, right.window(width, 0), 12 - width);
+            Check.same("P20 nothing is in its way", right.window(width, 1), 0);
+            if (width < 12) {
+                Check.same("P20 no place of one more", left.window(width + 1, 0), -1);
+                Check.same("P20 nothing is in the way of none", right.window(width + 1, 1), -1);
+            }
+        }
+        windows("P20 its last stripe counts with the whole width", () -> Check.loaded("At6000l000w18b11b10b09"), 4, 0, 6);
+        Supplier<StripeTasks> two = () -> Check.loaded("At1000t6000b08b09b10b11l000w03l102w18");
+        windows("P20 the narrow one in its way", two, 2, 0, 1);
+        windows("P20 better the wide one alone than both", two, 3, 1, 6);
+        windows("P20 both in its way", two, 8, 0, 7);
+        windows("P20 a bad one in each", two, 9, -1, -1);
+    }
+
     private static void idleIn() {
         Check.onlyTells("P21 idle", StripeTasks::new, StripeTasks::idleIn, 0);
         Check.onlyTells("P21 a loading", () -> Check.loaded("At2000l002w01"), StripeTasks::idleIn, 5);
@@ -115,6 +173,31 @@ final class FindTest {
         Check.same("P21 not idle before", x.job(0), 0);
         x.run(1);
         Check.same("P21 idle then", x.job(0), -1);
+    }
+
+    /** "Returns how many ticks have to go by, if nothing else is done; 0 if it is idle." */
+    private static void idleInCountsDown() {
+        String[] jobs = {"At2000l002", "At2000l002w06l006", "At2000l002w06l001", "At1000l000w03l000", "At6000l000w18l006"};
+        for (String job : jobs) {
+            StripeTasks x = Check.loaded(job);
+            int ticks = x.idleIn();
+            for (int left = ticks; left > 0; left--) {
+                Check.same("P21 with a job, " + job, x.job(0), 0);
+                Check.same("P21 ticks to go by, " + job, x.idleIn(), left);
+                x.run(1);
+            }
+            Check.same("P21 then it is idle, " + job, x.job(0), -1);
+            Check.same("P21 0 if it is idle, " + job, x.idleIn(), 0);
+        }
+        StripeTasks longest = Check.loaded("At6000l000w18");
+        longest.set(0, 9);
+        longest.set(1, 20);
+        Check.same("P21 the longest job", longest.bring(0, 6), 74);
+        Check.same("P21 the longest job", longest.idleIn(), 74);
+        StripeTasks shortest = Check.loaded("At1000");
+        shortest.set(0, 1);
+        Check.same("P21 the shortest job", shortest.bring(0, 6), 1);
+        Check.same("P21 the shortest job", shortest.idleIn(), 1);
     }
 
     private static void coming() {
@@ -159,6 +242,24 @@ final class FindTest {
         Check.same("P22 the ticks stay as they are", x.about(1), 7);
     }
 
+    /** In each tick of each job: what is told is what comes. */
+    private static void comingAsItComes() {
+        String[] jobs = {"At2100t1200l002w06l111", "At2100t1200l002w08l006", "At2100t1200l002w09l001", "At2100t1200l002w06s0"};
+        for (String job : jobs) {
+            StripeTasks x = Check.loaded(job);
+            StripeTasks later = Check.loaded(job);
+            for (int n = 1; n <= 25; n++) {
+                later.run(1);
+                for (int t = 0; t <= 1; t++) {
+                    String what = "P22 behind " + n + " of " + job;
+                    Check.same(what + ", the value", x.coming(t, n, 0), later.task(t, 1));
+                    Check.same(what + ", the saved value", x.coming(t, n, 1), later.task(t, 2));
+                    Check.same(what + ", the works", x.coming(t, n, 2), later.task(t, 3) - x.task(t, 3));
+                }
+            }
+        }
+    }
+
     private static void lost() {
         Supplier<StripeTasks> some = () -> Check.loaded("At3100t2200l003w13b00");
         int[] due = {0, 0, 0, 3, 3, 3, 0, 0, 0, 0, 0, 0};
@@ -199,6 +300,28 @@ final class FindTest {
         Check.same("P23 a new one", own.lost(5), 3);
         Check.same("P23 an old one", own.lost(3), 3);
         Check.same("P23 the one behind", own.lost(6), 0);
+    }
+
+    /** "of the task that would be off by that" "(0 if none would be off)": as turnBad tells it */
+    private static void lostEachStripe() {
+        String[] texts = {"At3100t2200l004w13l100", "At3100t2200l004w13l000", "At3100t2200l004w13l000w09",
+            "At3100t2200l004w13l003", "At3100t2200l004w13l006", "At3100t2200l004w13l109w06l100"};
+        for (String text : texts) {
+            for (int s = 0; s < 12; s++) {
+                StripeTasks x = Check.loaded(text);
+                int told = x.lost(s);
+                int off = x.turnBad(s);
+                int since = 0;
+                if (off != -1) {
+                    int value = x.task(off, 2);
+                    x.undo();
+                    for (; value != x.task(off, 1); since++) {
+                        value = Check.valueAfter(x.task(off, 0), value, 1);
+                    }
+                }
+                Check.same("P23 lost(" + s + ") in " + text, told, since);
+            }
+        }
     }
 
     /** What a bad stripe has taken already is not lost once more. */

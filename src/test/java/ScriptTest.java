@@ -13,6 +13,7 @@ final class ScriptTest {
         wrongScripts();
         simulateTurns();
         simulateRuns();
+        simulateWraps();
         wrongSimulations();
         Check.finish("ScriptTest");
     }
@@ -175,7 +176,7 @@ final class ScriptTest {
     }
 
     /** The turns that the seed tells, done as calls of the face on an object of their own. */
-    private static int turns(StripeTasks x, long seed, int m) {
+    static int turns(StripeTasks x, long seed, int m) {
         int worksBefore = x.about(8);
         long number = seed;
         for (int i = 0; i < m; i++) {
@@ -206,7 +207,7 @@ final class ScriptTest {
     }
 
     /** Seeds for which the first turn is known, by going back from the x that is wanted. */
-    private static long seedFor(int r) {
+    static long seedFor(int r) {
         long wanted = (long) r << 33;
         long inverse = 1;
         for (int i = 0; i < 6; i++) {
@@ -228,6 +229,31 @@ final class ScriptTest {
         Check.onlyTells("P25 bring(0, 3)", running, y -> y.simulate(seedFor(8 * 24 + 1), 1), 10000);
         Check.onlyTells("P25 bring(0, 0), moving", running, y -> y.simulate(seedFor(2), 1), 20000);
         Check.onlyTells("P25 add", running, y -> y.simulate(seedFor(0), 1), 20000);
+    }
+
+    /** "A long x starts as the seed", "with long overflow": also where x is negative, and at both ends of r. */
+    private static void simulateWraps() {
+        Supplier<StripeTasks> running = () -> Check.loaded("At3100t2200l003w09l109w06");
+        int half = 1 << 30;
+        Check.onlyTells("P25 the greatest r: run(16)", running, y -> y.simulate(seedFor(Integer.MAX_VALUE), 1), 20032);
+        Check.onlyTells("P25 the least r: add", running, y -> y.simulate(seedFor(0), 1), 20000);
+        // 2^30 / 8 is 134217728, its rest by 6 is 2, by 20 it is 8, by 12 it is 8
+        Check.onlyTells("P25 a negative x: stop(2)", running, y -> y.simulate(seedFor(half + 4), 1), 20000);
+        Check.onlyTells("P25 a negative x: stop(0)", running, y -> y.simulate(seedFor(half + 4 * 8 + 4), 1), 10000);
+        Check.onlyTells("P25 a negative x: run(9)", running, y -> y.simulate(seedFor(half + 5), 1), 20018);
+        Check.onlyTells("P25 a negative x: turnBad(9)", running, y -> y.simulate(seedFor(half + 8 + 3), 1), 10000);
+        // q is 15, 16, 63 and 64, its rest by 12 is 3, 4, 3 and 4
+        Check.onlyTells("P25 the last turnBad", running, y -> y.simulate(seedFor(8 * 15 + 3), 1), 10000);
+        Check.onlyTells("P25 the first mend", running, y -> y.simulate(seedFor(8 * 16 + 3), 1), 20000);
+        Check.onlyTells("P25 the last mend", running, y -> y.simulate(seedFor(8 * 63 + 3), 1), 20000);
+        Check.onlyTells("P25 turnBad again", running, y -> y.simulate(seedFor(8 * 64 + 3), 1), 10000);
+        for (long seed = -150; seed <= 150; seed++) {
+            long spread = seed * 0x9E3779B97F4A7C15L;
+            int due = turns(new StripeTasks(), spread, 60);
+            Check.same("P25 simulate(" + spread + ", 60) in a new object", new StripeTasks().simulate(spread, 60), due);
+            int dueOfBusy = turns(busy(), spread, 4);
+            Check.same("P25 simulate(" + spread + ", 4)", busy().simulate(spread, 4), dueOfBusy);
+        }
     }
 
     private static void wrongSimulations() {

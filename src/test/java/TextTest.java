@@ -5,10 +5,14 @@ final class TextTest {
         clearText();
         errorPosition();
         errorAtEachDigit();
+        endsTooSoon();
+        noBlanks();
         load();
         loadMakesNew();
         loadLeavesOut();
+        loadLeavesOutForEachCause();
         loadOfEveryCommand();
+        loadOfBothEnds();
         Check.finish("TextTest");
     }
 
@@ -125,6 +129,32 @@ final class TextTest {
         Check.same(what, got == before.length() ? 0 : 1, allowed ? 1 : 0);
     }
 
+    private static final String[] COMMANDS = {"A", "t1000", "t6996", "l000", "l511", "b00", "b11", "g00", "g11", "s0", "s5",
+        "w01", "w60"};
+
+    /** "if the text ends too soon, it is the length of the text" */
+    private static void endsTooSoon() {
+        Check.same("P4 no text ends too soon", new StripeTasks().errorPosition(), 0);
+        String text = "";
+        for (String command : COMMANDS) {
+            for (int part = 1; part < command.length(); part++) {
+                String begin = text + command.substring(0, part);
+                Check.same("P4 too soon: " + begin, Check.withText(begin).errorPosition(), begin.length());
+            }
+            text = text + command;
+            Check.same("P4 an array: " + text, Check.withText(text).errorPosition(), -1);
+        }
+    }
+
+    /** "There are no blanks." */
+    private static void noBlanks() {
+        String text = String.join("", COMMANDS);
+        for (int at = 0; at <= text.length(); at++) {
+            String blank = text.substring(0, at) + " " + text.substring(at);
+            Check.same("P4 a blank at " + at, Check.withText(blank).errorPosition(), at);
+        }
+    }
+
     private static void load() {
         Check.noState("P5 load of no text", StripeTasks::new, StripeTasks::load);
         Check.noState("P5 load of a wrong text", () -> Check.withText("At1000l"), StripeTasks::load);
@@ -155,20 +185,27 @@ final class TextTest {
         return x;
     }
 
-    private static void loadMakesNew() {
+    private static StripeTasks usedAndLoaded() {
         StripeTasks x = used();
         x.clearText();
-        Check.append(x, "A");
+        x.append('A');
         Check.same("P5 load again", x.load(), 0);
-        String fresh = Check.everything(Check.withText("A"));
+        return x;
+    }
+
+    private static StripeTasks loadedTwice() {
+        StripeTasks x = Check.loaded("At2005l003w09");
+        x.run(1);
+        x.save(1);
+        Check.same("P5 the same text again", x.load(), 0);
+        return x;
+    }
+
+    private static void loadMakesNew() {
         Check.sameText("P5 load makes everything as in a new object, without remembered states and saved ones",
-                Check.everything(x), fresh);
-        StripeTasks twice = Check.loaded("At2005l003w09");
-        twice.run(1);
-        twice.save(1);
-        Check.same("P5 the same text again", twice.load(), 0);
-        Check.sameText("P5 the same text again gives the same", Check.everything(twice),
-                Check.everything(Check.loaded("At2005l003w09")));
+                Check.everything(TextTest::usedAndLoaded), Check.everything(() -> Check.withText("A")));
+        Check.sameText("P5 the same text again gives the same", Check.everything(TextTest::loadedTwice),
+                Check.everything(() -> Check.loaded("At2005l003w09")));
     }
 
     private static void left(String text, int due) {
@@ -190,6 +227,32 @@ final class TextTest {
         Check.same("P5 the others are done", x.task(0, 3), 2);
     }
 
+    /** The last command of the text is left out, and changes nothing. */
+    private static void leftOut(String cause, String before, String command) {
+        Check.same("P5 done: " + before, Check.withText(before).load(), 0);
+        StripeTasks x = Check.withText(before + command);
+        Check.same("P5 left out: " + cause, x.load(), 1);
+        Check.sameText("P5 changes nothing: " + cause, Check.state(x), Check.state(Check.loaded(before)));
+    }
+
+    /** "Commands that would throw an exception are left out." */
+    private static void loadLeavesOutForEachCause() {
+        leftOut("a seventh task", "At1000t1000t1000t1000t1000t1000", "t1000");
+        leftOut("bring of no task", "A", "l000");
+        leftOut("bring of the task behind the last", "At1000t1000", "l200");
+        leftOut("bring where the loader has a job", "At1000t1000l000", "l111");
+        leftOut("bring beyond the stripe 11", "At2000", "l011");
+        leftOut("bring far beyond the stripe 11", "At6000", "l007");
+        leftOut("bring to a bad stripe", "At2000b06", "l005");
+        leftOut("bring to a taken stripe", "At2000t2000l004w06", "l105");
+        leftOut("stop of no task", "A", "s0");
+        leftOut("stop of the task behind the last", "At1000", "s1");
+        leftOut("stop of a task that is off", "At1000", "s0");
+        leftOut("stop of a loaded task", "At1000l000", "s0");
+        leftOut("stop of a task that moves", "At1000l000w03l005", "s0");
+        leftOut("stop of a task that is handed over", "At1000l000w03l000", "s0");
+    }
+
     private static void loadOfEveryCommand() {
         StripeTasks x = Check.loaded("At3123t1996l007b00b11g11w09s0l110w01");
         Check.same("P5 t", x.about(0), 2);
@@ -209,5 +272,28 @@ final class TextTest {
         late.load();
         Check.same("P5 load is no action: nothing to undo", late.about(0), 0);
         Check.sameText("P5 load forgets", Check.answer(late, StripeTasks::undo), "IllegalStateException");
+    }
+
+    /** "a width (1 to 6)", "a value (000 to 996)", "a task (0 to 5)", "a stripe (00 to 11)", "w and two digits (01 to 60)" */
+    private static void loadOfBothEnds() {
+        StripeTasks x = Check.loaded("At1000t6996");
+        Check.same("P5 the least width", x.task(0, 0), 1);
+        Check.same("P5 the least value", x.task(0, 1), 0);
+        Check.same("P5 the greatest width", x.task(1, 0), 6);
+        Check.same("P5 the greatest value", x.task(1, 1), 996);
+        String six = "At1000t1000t1000t1000t1000t1000";
+        Check.status(Check.loaded(six + "l000"), "P5 the first task to the first stripe", 0, 1, 0);
+        Check.status(Check.loaded(six + "l011"), "P5 the first task to the last stripe", 0, 1, 11);
+        Check.status(Check.loaded(six + "l500"), "P5 the last task to the first stripe", 5, 1, 0);
+        Check.status(Check.loaded(six + "l511"), "P5 the last task to the last stripe", 5, 1, 11);
+        Check.status(Check.loaded(six + "l000w03s0"), "P5 stop of the first", 0, 0, -1);
+        Check.status(Check.loaded(six + "l500w03s5"), "P5 stop of the last", 5, 0, -1);
+        Check.same("P5 the first is bad", Check.loaded("Ab00").stripe(0, 2), 1);
+        Check.same("P5 the last is bad", Check.loaded("Ab11").stripe(11, 2), 1);
+        Check.same("P5 the first is mended", Check.loaded("Ab00b11g00").about(5), 1);
+        Check.same("P5 the last is mended", Check.loaded("Ab00b11g11").stripe(11, 2), 0);
+        Check.same("P5 the least run", Check.loaded("Aw01").about(1), 1);
+        Check.same("P5 the greatest run", Check.loaded("Aw60").about(1), 60);
+        Check.same("P5 none left out of no command", Check.withText("A").load(), 0);
     }
 }
