@@ -597,12 +597,12 @@ public final class StripeTasks {
         // tasks
 
         boolean hasTask(int t) {
-            return t >= 0 && t < count && t < MOST_TASKS;
+            return taskNumbered(t) != null;
         }
 
         /** The task, or null if there is none of that number. */
         Task taskNumbered(int t) {
-            return hasTask(t) ? tasks[t] : null;
+            return t >= 0 && t < count && t < MOST_TASKS ? tasks[t] : null;
         }
 
         boolean hasRoomForTask() {

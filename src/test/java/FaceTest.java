@@ -37,12 +37,19 @@ final class FaceTest {
         Constructor<?>[] constructors = face.getDeclaredConstructors();
         Check.same("constructors", constructors.length, 1);
         Check.same("public constructors without parameters", face.getConstructors()[0].getParameterCount(), 0);
+        privateNames(face);
         for (Class<?> inside : face.getDeclaredClasses()) {
-            for (Method method : inside.getDeclaredMethods()) {
-                boolean taken = METHODS.stream().anyMatch(one -> one.split(" ")[0].equals(method.getName()));
-                Check.same(method + " bears a name of the face", taken ? 1 : 0, 0);
-            }
+            privateNames(inside);
         }
         Check.finish("FaceTest");
+    }
+
+    /** "No private method bears the name of a public one." */
+    private static void privateNames(Class<?> one) {
+        for (Method method : one.getDeclaredMethods()) {
+            boolean taken = METHODS.stream().anyMatch(told -> told.split(" ")[0].equals(method.getName()));
+            boolean isPrivate = Modifier.isPrivate(method.getModifiers());
+            Check.same(method + " is private with a name of the face", taken && isPrivate ? 1 : 0, 0);
+        }
     }
 }

@@ -199,6 +199,7 @@ final class RangeTest {
         digits("the task 0 runs with another digit", Made::full, 60002, 100, 0, 0);
         digits("the task 0 runs with another digit behind it", Made::full, 60002, 10, 0, 0);
         digits("the value of t is 0", () -> Check.loaded("At1000t1000t1000t1000t1000t1000"), 70000, 1000, 0, 5);
+        digits("the value of t is 996", () -> Check.loaded("At1996t1996t1996t1996t1996t1996"), 70996, 1000, 0, 5);
         numbers("the value is 0vv", () -> Check.loaded("At1007"), 70000, 1, 7, 7);
         digits("the value is v96", () -> Check.loaded("At1996"), 70096, 100, 9, 9);
         digits("the value is 99v", () -> Check.loaded("At1996"), 70990, 1, 6, 6);

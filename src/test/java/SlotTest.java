@@ -92,9 +92,9 @@ final class SlotTest {
         x.set(2, 2);
         x.restore(0);
         Check.sameText("P27 all that was saved", Check.state(x), Check.state(y));
-        for (int i = 0; i < 10; i++) {
-            x.run(1);
-            y.run(1);
+        for (int ticks : new int[] {1, 2, 3, 11}) {
+            x.run(ticks);
+            y.run(ticks);
             Check.sameText("P27 goes on in the same way", Check.state(x), Check.state(y));
         }
     }

@@ -1,3 +1,6 @@
+import java.util.List;
+import java.util.function.Supplier;
+
 /** Promises 2 to 5: append, clearText, errorPosition, load. */
 final class TextTest {
     public static void main(String[] args) {
@@ -9,6 +12,7 @@ final class TextTest {
         noBlanks();
         load();
         loadMakesNew();
+        loadMakesNewOfEach();
         loadLeavesOut();
         loadLeavesOutForEachCause();
         loadOfEveryCommand();
@@ -206,6 +210,39 @@ final class TextTest {
                 Check.everything(TextTest::usedAndLoaded), Check.everything(() -> Check.withText("A")));
         Check.sameText("P5 the same text again gives the same", Check.everything(TextTest::loadedTwice),
                 Check.everything(() -> Check.loaded("At2005l003w09")));
+    }
+
+    private static StripeTasks loadedBehind(Supplier<StripeTasks> make, String text) {
+        StripeTasks x = make.get();
+        x.clearText();
+        Check.append(x, text);
+        Check.same("P5 load of " + text + " behind other calls", x.load(), 0);
+        return x;
+    }
+
+    /** "Makes everything as in a new object, and then does the commands of the text." */
+    private static void loadMakesNewOfEach() {
+        List<Supplier<StripeTasks>> used = List.of(Made::idle, Made::loading, Made::moving, Made::handedOver, Made::ontoOwn,
+                Made::full, Made::allBad, TextTest::used);
+        String[] texts = {"A", "At1000", "At6900l003", "At2100t3200l003w08l105w09l100", "At1007l011w05b11"};
+        for (Supplier<StripeTasks> make : used) {
+            for (String text : texts) {
+                String what = "P5 load of " + text + " is as in a new object";
+                Check.sameText(what, Check.everything(() -> loadedBehind(make, text)), Check.everything(() -> Check.loaded(text)));
+                Check.sameText(what + ", and goes on so", later(loadedBehind(make, text)), later(Check.loaded(text)));
+            }
+        }
+    }
+
+    /** What an object tells behind calls that use all that could have been left behind in it. */
+    private static String later(StripeTasks x) {
+        x.run(7);
+        x.add(2, 5);
+        StringBuilder told = new StringBuilder("bring ").append(Check.answer(x, y -> y.bring(y.about(0) - 1, 9)));
+        told.append('\n').append(Check.state(x));
+        told.append("\nwindow ").append(x.window(12, 0)).append(' ').append(x.window(12, 1));
+        told.append("\nworks ").append(x.run(60)).append('\n').append(Check.state(x));
+        return told.toString();
     }
 
     private static void left(String text, int due) {
