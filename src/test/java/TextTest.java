@@ -10,6 +10,7 @@ final class TextTest {
         errorAtEachDigit();
         endsTooSoon();
         noBlanks();
+        leftToRight();
         load();
         loadMakesNew();
         loadMakesNewOfEach();
@@ -157,6 +158,28 @@ final class TextTest {
             String blank = text.substring(0, at) + " " + text.substring(at);
             Check.same("P4 a blank at " + at, Check.withText(blank).errorPosition(), at);
         }
+    }
+
+    /** "The text is read from left to right." */
+    private static void leftToRight() {
+        error("At7l6b2g2s6w7", 2);
+        error("At1l6b2g2s6w7", 3);
+        error("At1000l6b2g2s6w7", 7);
+        error("At1000l000b2g2s6w7", 11);
+        error("At1000l000b00g2s6w7", 14);
+        error("At1000l000b00g00s6w7", 17);
+        error("At1000l000b00g00s0w7", 19);
+        left("At1000l000w03s0", 0);
+        left("As0w03l000t1000", 2);
+        left("Aw03l000t1000s0", 2);
+        left("At1000b00g00l000", 0);
+        left("At1000b00l000g00", 1);
+        StripeTasks x = Check.loaded("At1000t2000t3000");
+        for (int t = 0; t <= 2; t++) {
+            Check.same("P5 the first command adds the first task", x.task(t, 0), t + 1);
+        }
+        Check.same("P5 run behind bring", Check.loaded("At1000l000w05").about(8), 3);
+        Check.same("P5 run before bring", Check.loaded("At1000w05l000").about(8), 0);
     }
 
     private static void load() {
