@@ -315,7 +315,7 @@ final class FindTest {
                 if (off != -1) {
                     int value = x.task(off, 2);
                     x.undo();
-                    for (; value != x.task(off, 1); since++) {
+                    for (; value != x.task(off, 1) && since < 1000; since++) {
                         value = Check.valueAfter(x.task(off, 0), value, 1);
                     }
                 }
